@@ -940,12 +940,13 @@ public final class Changeringer {
         }
     }
 
-    /** The list of all rows, with a mark for each time that a row came. */
+    /** The list of all rows, with a mark for each time that a row came. Who marks takes older marks back first. */
     private static final class RowList {
         private static final int[] FACTORIALS = {1, 1, 2, 6, 24, 120, 720, 5040, 40320};
 
         private int bells;
         private int size;
+        /** How many rows are marked. */
         private int distinct;
         private final int[] marks = new int[40320];
         /** The places that were marked, in their order, so that marks can be taken back. */
@@ -953,7 +954,6 @@ public final class Changeringer {
 
         void clear(int bells) {
             this.bells = bells;
-            backTo(0);
         }
 
         /** The place in the list, from 0: by how many bells that are left are lower than that of each place. */
@@ -1094,37 +1094,31 @@ public final class Changeringer {
         private boolean isFalseInItself(int kind, Methods methods) {
             list.backTo(0);
             int row = Row.ROUNDS;
-            int most = 0;
             for (int at = 0; at < methods.sizeOf(kind); at++) {
-                most = Math.max(most, list.mark(row));
+                list.mark(row);
                 row = Row.changed(row, methods.lowers[kind][at]);
             }
-            list.backTo(0);
-            return most > 1;
+            return list.distinct < methods.sizeOf(kind);
         }
 
         /** Whether two leads of these kinds in the touch are false against each other. */
         private boolean areFalse(int kind, int otherKind, Touch touch, Methods methods) {
             markHeads(kind, otherKind, methods);
-            boolean isFalse = false;
-            for (int one = from[kind]; one < from[kind + 1] && !isFalse; one++) {
-                int lead = members[one];
-                int placesOfBells = Row.inverse(touch.heads[lead]);
+            for (int one = from[kind]; one < from[kind + 1]; one++) {
+                int placesOfBells = Row.inverse(touch.heads[members[one]]);
                 int end = kind == otherKind ? one : from[otherKind + 1];
-                for (int other = from[otherKind]; other < end && !isFalse; other++) {
-                    int otherLead = members[other];
-                    isFalse = list.isMarked(Row.then(placesOfBells, touch.heads[otherLead]));
+                for (int other = from[otherKind]; other < end; other++) {
+                    if (list.isMarked(Row.then(placesOfBells, touch.heads[members[other]]))) {
+                        return true;
+                    }
                 }
             }
-            list.backTo(0);
-            return isFalse;
+            return false;
         }
 
         int headsBetween(int kind, int otherKind, Methods methods) {
             markHeads(kind, otherKind, methods);
-            int heads = list.distinct;
-            list.backTo(0);
-            return heads;
+            return list.distinct;
         }
 
         /** Marks the heads of leads of the other kind that are false against one of the first kind from rounds. */
@@ -1147,34 +1141,26 @@ public final class Changeringer {
         /** The first row that is like one ahead of it, or -1. */
         int firstRepeat(Touch touch) {
             list.backTo(0);
-            int first = -1;
-            for (int row = 0; row < touch.length && first < 0; row++) {
+            for (int row = 0; row < touch.length; row++) {
                 if (list.mark(touch.rows[row]) > 1) {
-                    first = row;
+                    return row;
                 }
             }
-            list.backTo(0);
-            return first;
+            return -1;
         }
 
         int mostOften(Touch touch) {
-            int most = markAll(touch.rows, touch.length);
-            list.backTo(0);
-            return most;
+            return markAll(touch.rows, touch.length);
         }
 
         boolean allowsAsLawful(Touch touch) {
             int most = markAll(touch.rows, touch.length);
-            int least = list.leastMarks();
-            list.backTo(0);
-            return touch.endsInRounds() && most - least <= 1;
+            return touch.endsInRounds() && most - list.leastMarks() <= 1;
         }
 
         int repeatsIn(int[] rows, int length) {
             markAll(rows, length);
-            int distinct = list.distinct;
-            list.backTo(0);
-            return length - distinct;
+            return length - list.distinct;
         }
 
         private int markAll(int[] rows, int length) {
@@ -1311,7 +1297,6 @@ public final class Changeringer {
                     }
                 }
             }
-            list.backTo(0);
             return found;
         }
 

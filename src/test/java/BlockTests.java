@@ -25,6 +25,8 @@ public final class BlockTests {
         music();
         checksums();
         tooLong();
+        deepBlocks();
+        extents();
         blocksWithoutChanges();
         Check.end("BlockTests");
     }
@@ -467,6 +469,54 @@ public final class BlockTests {
         Check.fails(27, ARGUMENT, () -> tower.music(block, 0, 'x'));
         Check.fails(46, SUPPORT, () -> tower.checksum(block));
         Check.due(47, true, tower.isSound());
+    }
+
+    /** Ten blocks, each but the first with the one below it in it. */
+    private static void deepBlocks() {
+        Changeringer tower = Check.tower(4);
+        Check.method(tower, 0);
+        Check.method(tower, 9);
+        Check.block(tower, 0, "p");
+        for (int block = 1; block < 10; block++) {
+            tower.block();
+            tower.again(block, block - 1, block == 5 ? 2 : 1);
+            tower.lead(block, 1, 'p');
+        }
+        Check.due(14, 15L, tower.length(9));
+        Check.due(22, 2, tower.changesOfMethod(5) - tower.changesOfMethod(4));
+        Check.due(15, "2143", Check.row(tower, 9, 1, 4));
+        Check.due(15, "2413", Check.row(tower, 9, 2, 4));
+        // the second time begins in the row 5 with the change 0
+        Check.due(15, "2143", Check.row(tower, 9, 5, 4));
+        Check.due(15, "1234", Check.row(tower, 9, 6, 4));
+    }
+
+    /** All 720 rows of six bells, once and twice. */
+    private static void extents() {
+        Changeringer tower = Check.minor();
+        int extent = tower.seek(0, 20, 3, 3);
+        Check.due(14, 720L, tower.length(extent));
+        Check.due(20, 1, tower.level(extent));
+        Check.due(21, true, tower.isLawful(extent));
+        int more = tower.block();
+        tower.again(more, extent, 2);
+        Check.due(20, 2, tower.level(more));
+        Check.due(21, true, tower.isLawful(more));
+        int course = Check.block(tower, 0, "ppppp");
+        int most = tower.block();
+        tower.again(most, extent, 1);
+        tower.again(most, course, 1);
+        Check.due(21, true, tower.isLawful(most));
+        tower.again(most, course, 1);
+        Check.due(21, false, tower.isLawful(most));
+        Changeringer doubles = Check.doubles();
+        int all = doubles.seek(0, 4, 2, 3);
+        int twice = doubles.block();
+        doubles.again(twice, all, 2);
+        Check.due(21, true, doubles.isLawful(twice));
+        doubles.again(twice, all, 18);
+        Check.due(20, 20, doubles.level(twice));
+        Check.due(21, true, doubles.isLawful(twice));
     }
 
     /** Blocks without changes in each other, many times over, must not take long. */
