@@ -148,6 +148,12 @@ public final class ComposingTests {
         six.setCall(0, 'b', 3, 9);
         six.setCall(0, 's', 3, 0);
         Check.due(30, 20L, six.count(0, 10, 3));
+        // and here the first one would be found as the lead 30001
+        Changeringer eight = Check.tower(8);
+        Check.method(eight, 0, 147, 0, 249, 36);
+        eight.setCall(0, 'b', 4, 0);
+        eight.setCall(0, 's', 4, 129);
+        Check.fails(28, SUPPORT, () -> eight.seek(0, 16, 3, 1));
     }
 
     private static void counting() {
