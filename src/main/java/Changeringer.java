@@ -942,18 +942,24 @@ public final class Changeringer {
 
     /** The list of all rows, with a mark for each time that a row came. Who marks takes older marks back first. */
     private static final class RowList {
-        private static final int[] FACTORIALS = {1, 1, 2, 6, 24, 120, 720, 5040, 40320};
+        private static final int MOST_ROWS = 40320;
 
         private int bells;
+        /** How many rows of these bells there are. */
+        private int all;
         private int size;
         /** How many rows are marked. */
         private int distinct;
-        private final int[] marks = new int[40320];
+        private final int[] marks = new int[MOST_ROWS];
         /** The places that were marked, in their order, so that marks can be taken back. */
         private final int[] trail = new int[MOST_RUNG];
 
         void clear(int bells) {
             this.bells = bells;
+            all = 1;
+            for (int bell = 2; bell <= bells; bell++) {
+                all *= bell;
+            }
         }
 
         /** The place in the list, from 0: by how many bells that are left are lower than that of each place. */
@@ -1000,7 +1006,6 @@ public final class Changeringer {
         }
 
         int leastMarks() {
-            int all = FACTORIALS[bells];
             if (distinct < all) {
                 return 0;
             }
