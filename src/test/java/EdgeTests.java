@@ -141,7 +141,7 @@ public final class EdgeTests {
         Check.due(4, "3142", Check.row(tower, 0, 2, 4));
     }
 
-    /** Calls at the first and last change of a lead; bob and single are apart, and of each the last one told is left. */
+    /** Calls at the first and last change of a lead; bob and single are apart, of each the one told last is left. */
     private static void toldCalls() {
         Changeringer tower = Check.minimus();
         Check.method(tower, 9);

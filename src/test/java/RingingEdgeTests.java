@@ -22,6 +22,7 @@ public final class RingingEdgeTests {
         linesWhoeverRangThem();
         lastChanges();
         wordsInTime();
+        twoWordsInOneChange();
         heardBlows();
         heardByTheConductor();
         rowsLikeEarlierOnes();
@@ -358,6 +359,21 @@ public final class RingingEdgeTests {
             tower.setConductor(3 - conductor);
             rows(tower, 0, conductor < 2 ? late : early);
         }
+    }
+
+    /**
+     * Two slips that are put right in one change: 4 with 2 in the change 2, told late, and 4 with 3 in the change 4.
+     * The document does not tell their order; here it is that in which they happened.
+     */
+    private static void twoWordsInOneChange() {
+        Changeringer tower = changesOf(1, 2, 1, 2, 1, 2);
+        for (int memory : new int[] {99, 5, 4, 2}) {
+            hire(tower, 1, 0, memory);
+        }
+        tower.setConductor(1);
+        tower.perform(0, 5);
+        rows(tower, 0, "1234", "1324", "1324", "1234", "1234", "1324", "1423");
+        numbers(tower, 0, 2, 2, 0);
     }
 
     /** 25 and -25 are not heard, 26 and -26 are; the weight counts for bells that go down only. */
